@@ -73,7 +73,7 @@ public final class CaseNet {
         if (on || !net.isDefined(t) || !isVariable(variable)) {
             return false;
         }
-        if (!isBetween(c, 0, CONDITIONS - 1) || (net.tasks[t].outs & 1 << c) == 0) {
+        if (!isBetween(c, 0, CONDITIONS - 1) || (net.tasks[t].outs & (1 << c)) == 0) {
             return false;
         }
         net.tasks[t].putGuard(c, variable, low, high);
@@ -229,7 +229,7 @@ public final class CaseNet {
         if (!isBetween(without, NONE, TASKS - 1)) {
             return BAD;
         }
-        return net.isCovered(target, from, without) ? 1 : 0;
+        return net.findCovering(target, from, without) ? 1 : 0;
     }
 
     public int verdict() {
@@ -274,8 +274,8 @@ public final class CaseNet {
     private boolean canMoreInputsCome(int t) {
         int ins = net.tasks[t].ins;
         for (int c = 0; c < CONDITIONS; c++) {
-            int other = ins & ~present & 1 << c;
-            if (other != 0 && net.isCovered(present & ins | other, present, t)) {
+            int other = ins & ~present & (1 << c);
+            if (other != 0 && net.findCovering((present & ins) | other, present, t)) {
                 return true;
             }
         }
@@ -408,7 +408,7 @@ public final class CaseNet {
         private final int[] guardHigh = new int[CONDITIONS];
 
         Task(int t) {
-            place = 1 << CONDITIONS + t;
+            place = 1 << (CONDITIONS + t);
         }
 
         void define(int newJoin, int newSplit, int newIns, int newOuts) {
@@ -482,7 +482,7 @@ public final class CaseNet {
             int holding = 0;
             int greatest = 0;
             for (int c = 0; c < CONDITIONS; c++) {
-                if ((outs & 1 << c) != 0) {
+                if ((outs & (1 << c)) != 0) {
                     greatest = 1 << c;
                     holding |= guardHolds(c, values) ? greatest : 0;
                 }
@@ -516,7 +516,7 @@ public final class CaseNet {
         }
 
         boolean isDefined(int t) {
-            return t >= 0 && t < TASKS && tasks[t].defined;
+            return isBetween(t, 0, TASKS - 1) && tasks[t].defined;
         }
 
         int definedTasks() {
@@ -527,17 +527,12 @@ public final class CaseNet {
             return mask;
         }
 
-        boolean isCovered(int target, int from, int without) {
-            findCovering(target, from, without);
-            return covering.has(from);
-        }
-
         int judge() {
             if (definedTasks() == 0 || hasJoinSome()) {
                 return NONE;
             }
             reachFromStart();
-            // Only a full set holds the empty mask, so with it nothing ends the search too early.
+            // Nothing covers the END from the empty mask: sought in vain, it lets the search go on to its end.
             findCovering(END, 0, NONE);
             int verdict = reached.isWithin(covering) ? 1 : 0;
             verdict |= endStandsAlone ? 2 : 0;
@@ -555,18 +550,18 @@ public final class CaseNet {
         }
 
         /**
-         * Gathers the masks from which the target is covered, until the sought one is among them.
-         * It goes back from the target: what covers a mask is all that has a move's taken places
-         * and those of the mask that the move does not put.
+         * Gathers the masks from which the target is covered, until the sought one is among them,
+         * and answers whether it is. It goes back from the target: before a move there must be the
+         * places that it takes, and those of the target that it does not put.
          */
-        private void findCovering(int target, int sought, int without) {
+        boolean findCovering(int target, int sought, int without) {
             covering.clear();
             open.clear();
             addNeed(target);
             for (int left = MaskSet.MASKS; left > 0 && !covering.has(sought); left--) {
                 int need = open.draw();
                 if (need == NONE) {
-                    return;
+                    return false;
                 }
                 for (int t = 0; t < TASKS; t++) {
                     if (t != without && tasks[t].defined) {
@@ -575,6 +570,7 @@ public final class CaseNet {
                     }
                 }
             }
+            return covering.has(sought);
         }
 
         private void goBackBeforeEnd(Task task, int need) {
@@ -599,6 +595,7 @@ public final class CaseNet {
             }
         }
 
+        /** A mask with all places of an earlier need tells nothing new: that need is easier to meet. */
         private void addNeed(int need) {
             if (!covering.has(need)) {
                 covering.addAllAbove(need);
@@ -636,7 +633,7 @@ public final class CaseNet {
                 int taken = task.takes[i];
                 if ((mask & taken) == taken) {
                     begun |= 1 << t;
-                    addReached(mask & ~taken | task.place);
+                    addReached((mask & ~taken) | task.place);
                 }
             }
         }
@@ -682,28 +679,28 @@ public final class CaseNet {
         }
 
         boolean has(int mask) {
-            return (words[mask >> LOW_PLACES] & 1L << (mask & LOW)) != 0;
+            return ((words[mask >> LOW_PLACES] >>> (mask & LOW)) & 1L) != 0;
         }
 
         void add(int mask) {
             int word = mask >> LOW_PLACES;
             words[word] |= 1L << (mask & LOW);
-            firstUsed = Math.min(firstUsed, word);
+            firstUsed = word < firstUsed ? word : firstUsed;
         }
 
         /** Adds each mask that has all bits of this one. */
         void addAllAbove(int mask) {
             long above = -1L;
             for (int place = 0; place < LOW_PLACES; place++) {
-                if ((mask & 1 << place) != 0) {
+                if ((mask & (1 << place)) != 0) {
                     above &= HAVING[place];
                 }
             }
             int high = mask >> LOW_PLACES;
-            for (int word = high; word < WORDS; word = word + 1 | high) {
+            for (int word = high; word < WORDS; word = (word + 1) | high) {
                 words[word] |= above;
             }
-            firstUsed = Math.min(firstUsed, high);
+            firstUsed = high < firstUsed ? high : firstUsed;
         }
 
         /** Takes the least mask out of the set, and answers it. */

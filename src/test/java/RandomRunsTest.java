@@ -2,8 +2,8 @@ import java.util.Random;
 
 /** Long runs of calls, made up with fixed seeds, must be answered as PlainNet answers them. */
 public final class RandomRunsTest {
-    private static final int RUNS = 600;
-    private static final int CALLS = 512;
+    private static final int RUNS = 2000;
+    private static final int DESIGNS = 4;
 
     private final Checks checks;
     private final Random random;
@@ -26,10 +26,14 @@ public final class RandomRunsTest {
     }
 
     private void run() {
-        int calls = 0;
-        while (calls < CALLS) {
-            calls += designCalls(5 + random.nextInt(12));
-            calls += workCalls(40 + random.nextInt(120));
+        for (int design = 0; design < DESIGNS; design++) {
+            designCalls(between(6, 20));
+            for (int round = between(1, 3); round > 0; round--) {
+                due("launch", net.launch(), plain.launch());
+                workUntilNothingGoesOn(between(10, 80));
+                due("cancel", net.cancel(), plain.cancel());
+                lookAtItems();
+            }
         }
     }
 
@@ -71,24 +75,23 @@ public final class RandomRunsTest {
         return rarely() ? random.nextInt() : between(-3, 3);
     }
 
-    private int designCalls(int calls) {
-        due("cancel", net.cancel(), plain.cancel());
+    private void designCalls(int calls) {
         for (int i = 0; i < calls; i++) {
             designCall();
+            due("verdict", net.verdict(), plain.verdict());
         }
-        int from = places();
-        int target = places();
-        int without = rarely() ? between(-3, 8) : between(-1, 5);
-        due("covers(" + from + ", " + target + ", " + without + ")",
-                net.covers(from, target, without), plain.covers(from, target, without));
-        due("verdict", net.verdict(), plain.verdict());
-        due("launch", net.launch(), plain.launch());
-        return calls + 4;
+        for (int i = 0; i < 5; i++) {
+            int from = places();
+            int target = random.nextBoolean() ? conditions() : places();
+            int without = rarely() ? between(-3, 8) : between(-1, 5);
+            due("covers(" + from + ", " + target + ", " + without + ")",
+                    net.covers(from, target, without), plain.covers(from, target, without));
+        }
     }
 
     private void designCall() {
         int t = taskNumber();
-        switch (random.nextInt(8)) {
+        switch (random.nextInt(10)) {
             case 0 -> {
                 int places = places();
                 due("region", net.region(t, places), plain.region(t, places));
@@ -100,9 +103,9 @@ public final class RandomRunsTest {
                 int high = rarely() ? value() : between(-2, 2);
                 due("guard", net.guard(t, c, v, low, high), plain.guard(t, c, v, low, high));
             }
-            case 3 -> {
-                int number = between(0, 5);
-                int threshold = between(0, 5);
+            case 3, 4, 5 -> {
+                int number = rarely() ? between(0, 5) : between(1, 4);
+                int threshold = rarely() ? between(0, 5) : between(1, Math.max(1, number));
                 int v = rarely() ? between(-2, 6) : between(0, 3);
                 int deadline = rarely() ? between(-2, 103) : between(0, 9);
                 due("items", net.items(t, number, threshold, v, deadline),
@@ -118,29 +121,42 @@ public final class RandomRunsTest {
         }
     }
 
-    private int workCalls(int calls) {
+    private void workUntilNothingGoesOn(int calls) {
         for (int i = 0; i < calls; i++) {
             workCall();
             due("marking", net.marking(), plain.marking());
+            if (plain.marking() >> 8 == 0 && plain.enabled() == 0 && random.nextInt(4) == 0) {
+                return;
+            }
         }
+    }
+
+    private void lookAtItems() {
         for (int id = 0; id <= made + 1; id++) {
             for (int what = -1; what <= 3; what++) {
                 due("item(" + id + ", " + what + ")", net.item(id, what), plain.item(id, what));
             }
         }
-        return calls;
     }
 
     private int itemNumber() {
-        return rarely() ? between(-1, 62) : Math.max(1, made - between(0, 5));
+        if (rarely()) {
+            return between(-1, 62);
+        }
+        int open = 0;
+        for (int id = 1; id <= made; id++) {
+            boolean isOpen = plain.item(id, 1) <= 2;
+            open = isOpen && (open == 0 || random.nextInt(3) == 0) ? id : open;
+        }
+        return open;
     }
 
     private void workCall() {
         int id = itemNumber();
         int value = value();
         int v = between(-1, 4);
-        switch (random.nextInt(12)) {
-            case 0, 1 -> fireOneOf(plain.enabled());
+        switch (random.nextInt(14)) {
+            case 12, 13, 0, 1 -> fireOneOf(plain.enabled());
             case 2, 3, 4 -> due("start(" + id + ")", net.start(id), plain.start(id));
             case 5, 6, 7 -> due("finish(" + id + ", " + value + ")", net.finish(id, value), plain.finish(id, value));
             case 8 -> due("fail(" + id + ")", net.fail(id), plain.fail(id));
@@ -157,8 +173,8 @@ public final class RandomRunsTest {
     private void fireOneOf(int enabled) {
         due("enabled", net.enabled(), enabled);
         int t = taskNumber();
-        for (int i = 0; i < 6 && enabled >> Math.floorMod(t, 6) != 0 && !rarely(); i++) {
-            t = (enabled >> Math.floorMod(t, 6) & 1) == 1 ? Math.floorMod(t, 6) : Math.floorMod(t + 1, 6);
+        for (int tries = 0; tries < 20 && (enabled >> t & 1) == 0; tries++) {
+            t = taskNumber();
         }
         int first = plain.fire(t);
         due("fire(" + t + ")", net.fire(t), first);
