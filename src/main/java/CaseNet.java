@@ -17,6 +17,8 @@ public final class CaseNet {
     private static final int MOST_ITEMS = 60;
     private static final int MOST_ITEMS_OF_A_TASK = 4;
     private static final int MOST_TICKS = 100;
+    private static final int LEAST_VALUE = -2147483648;
+    private static final int GREATEST_VALUE = 2147483647;
 
     private static final int START = 1;
     private static final int END = 2;
@@ -420,7 +422,7 @@ public final class CaseNet {
             cleared = 0;
             putWork(1, 1, 0, 0);
             for (int c = 0; c < CONDITIONS; c++) {
-                putGuard(c, 0, Integer.MIN_VALUE, Integer.MAX_VALUE);
+                putGuard(c, 0, LEAST_VALUE, GREATEST_VALUE);
             }
             listTakes();
             listPuts();

@@ -72,7 +72,7 @@ public final class FaceTest {
         }
     }
 
-    /** The dearest calls, as often as an object may be used, must not make as much as one small array each. */
+    /** The dearest calls, as often as an object may be used, must not make as much as a small object each. */
     private static void callsMakeNoObjects(Checks checks) {
         var threads = (com.sun.management.ThreadMXBean) ManagementFactory.getThreadMXBean();
         CaseNet net = new CaseNet();
@@ -83,10 +83,10 @@ public final class FaceTest {
         net.launch();
         int answers = net.enabled() + net.verdict();
         long before = threads.getThreadAllocatedBytes(Thread.currentThread().getId());
-        for (int call = 0; call < 512; call++) {
-            answers += net.enabled() + net.covers(call, 0b11101000, -1) + net.verdict() + net.tick(1);
+        for (int from = 0; from < 125; from++) {
+            answers += net.enabled() + net.covers(from, 0b11101000, -1) + net.verdict() + net.tick(1);
         }
         long made = threads.getThreadAllocatedBytes(Thread.currentThread().getId()) - before;
-        checks.due("bytes made by 512 calls: " + made + " with answers " + answers, true, made < 512 * 8);
+        checks.due("bytes made by 500 calls: " + made + " with answers " + answers, true, made < 500 * 8);
     }
 }

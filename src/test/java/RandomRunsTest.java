@@ -1,14 +1,19 @@
 import java.util.Random;
 
-/** Long runs of calls, made up with fixed seeds, must be answered as PlainNet answers them. */
+/**
+ * Runs of calls, made up with fixed seeds, must be answered as PlainNet answers them, and as an object
+ * answers on which the calls that are refused were never made.
+ */
 public final class RandomRunsTest {
-    private static final int RUNS = 2000;
-    private static final int DESIGNS = 4;
+    private static final int RUNS = 4000;
+    /** Left at the end of a run, to look at each item. */
+    private static final int LAST_CALLS = 130;
 
     private final Checks checks;
     private final Random random;
-    private final CaseNet net = new CaseNet();
+    private final Trace net = new Trace();
     private final PlainNet plain = new PlainNet();
+    private final CaseNet spared = new CaseNet();
     private int made;
 
     private RandomRunsTest(Checks checks, int seed) {
@@ -26,14 +31,27 @@ public final class RandomRunsTest {
     }
 
     private void run() {
-        for (int design = 0; design < DESIGNS; design++) {
+        while (hasCallsLeft()) {
             designCalls(between(6, 20));
-            for (int round = between(1, 3); round > 0; round--) {
-                due("launch", net.launch(), plain.launch());
+            for (int round = between(1, 3); round > 0 && hasCallsLeft(); round--) {
+                due("launch");
                 workUntilNothingGoesOn(between(10, 80));
-                due("cancel", net.cancel(), plain.cancel());
-                lookAtItems();
+                due("cancel");
             }
+        }
+        lookAtItems();
+    }
+
+    private boolean hasCallsLeft() {
+        return net.callsLeft() > LAST_CALLS;
+    }
+
+    private void due(String name, int... args) {
+        Call call = new Call(name, args);
+        long want = call.on(plain);
+        checks.due(call.toString(), want, net.call(call));
+        if (!call.isRefusedBy(want)) {
+            checks.due(call + " without those refused", want, call.on(spared));
         }
     }
 
@@ -75,56 +93,45 @@ public final class RandomRunsTest {
         return rarely() ? random.nextInt() : between(-3, 3);
     }
 
+    private int variableNumber() {
+        return rarely() ? between(-2, 6) : between(0, 3);
+    }
+
     private void designCalls(int calls) {
-        for (int i = 0; i < calls; i++) {
+        for (int i = 0; i < calls && hasCallsLeft(); i++) {
             designCall();
-            due("verdict", net.verdict(), plain.verdict());
         }
-        for (int i = 0; i < 5; i++) {
-            int from = places();
-            int target = random.nextBoolean() ? conditions() : places();
-            int without = rarely() ? between(-3, 8) : between(-1, 5);
-            due("covers(" + from + ", " + target + ", " + without + ")",
-                    net.covers(from, target, without), plain.covers(from, target, without));
+        for (int i = 0; i < 5 && hasCallsLeft(); i++) {
+            due("verdict");
+            due("covers", places(), random.nextBoolean() ? conditions() : places(),
+                    rarely() ? between(-3, 8) : between(-1, 5));
+            designCall();
         }
     }
 
     private void designCall() {
         int t = taskNumber();
         switch (random.nextInt(10)) {
-            case 0 -> {
-                int places = places();
-                due("region", net.region(t, places), plain.region(t, places));
-            }
-            case 1, 2 -> {
-                int c = between(-1, 8);
-                int v = rarely() ? between(-2, 6) : between(0, 3);
-                int low = rarely() ? value() : between(-2, 2);
-                int high = rarely() ? value() : between(-2, 2);
-                due("guard", net.guard(t, c, v, low, high), plain.guard(t, c, v, low, high));
-            }
+            case 0 -> due("region", t, places());
+            case 1, 2 -> due("guard", t, between(-1, 8), variableNumber(),
+                    rarely() ? value() : between(-2, 2), rarely() ? value() : between(-2, 2));
             case 3, 4, 5 -> {
                 int number = rarely() ? between(0, 5) : between(1, 4);
                 int threshold = rarely() ? between(0, 5) : between(1, Math.max(1, number));
-                int v = rarely() ? between(-2, 6) : between(0, 3);
-                int deadline = rarely() ? between(-2, 103) : between(0, 9);
-                due("items", net.items(t, number, threshold, v, deadline),
-                        plain.items(t, number, threshold, v, deadline));
+                due("items", t, number, threshold, variableNumber(), rarely() ? between(-2, 103) : between(0, 9));
             }
             default -> {
                 int join = rarely() ? between(-1, 3) : between(0, between(1, 2));
                 int split = rarely() ? between(-1, 3) : between(0, 2);
-                int ins = random.nextInt(4) == 0 ? 1 : conditions();
-                int outs = conditions();
-                due("task", net.task(t, join, split, ins, outs), plain.task(t, join, split, ins, outs));
+                due("task", t, join, split, random.nextInt(4) == 0 ? 1 : conditions(), conditions());
             }
         }
     }
 
     private void workUntilNothingGoesOn(int calls) {
-        for (int i = 0; i < calls; i++) {
+        for (int i = 0; i < calls && hasCallsLeft(); i++) {
             workCall();
-            due("marking", net.marking(), plain.marking());
+            due("marking");
             if (plain.marking() >> 8 == 0 && plain.enabled() == 0 && random.nextInt(4) == 0) {
                 return;
             }
@@ -133,9 +140,8 @@ public final class RandomRunsTest {
 
     private void lookAtItems() {
         for (int id = 0; id <= made + 1; id++) {
-            for (int what = -1; what <= 3; what++) {
-                due("item(" + id + ", " + what + ")", net.item(id, what), plain.item(id, what));
-            }
+            due("item", id, 1);
+            due("item", id, rarely() ? between(-2, 4) : 2 * between(0, 1));
         }
     }
 
@@ -152,51 +158,43 @@ public final class RandomRunsTest {
     }
 
     private void workCall() {
-        int id = itemNumber();
-        int value = value();
-        int v = between(-1, 4);
-        switch (random.nextInt(14)) {
-            case 12, 13, 0, 1 -> fireOneOf(plain.enabled());
-            case 2, 3, 4 -> due("start(" + id + ")", net.start(id), plain.start(id));
-            case 5, 6, 7 -> due("finish(" + id + ", " + value + ")", net.finish(id, value), plain.finish(id, value));
-            case 8 -> due("fail(" + id + ")", net.fail(id), plain.fail(id));
-            case 9 -> {
-                int n = rarely() ? between(-200, 200) : between(0, 3);
-                due("tick(" + n + ")", net.tick(n), plain.tick(n));
+        switch (random.nextInt(15)) {
+            case 0, 1, 2, 3 -> fireOneOf(plain.enabled());
+            case 4, 5, 6 -> due("start", itemNumber());
+            case 7, 8, 9 -> finish(itemNumber(), value());
+            case 10 -> due("fail", itemNumber());
+            case 11 -> due("tick", rarely() ? between(-200, 200) : between(0, 3));
+            case 12 -> {
+                int variable = variableNumber();
+                due("set", variable, value());
+                due("variable", variable);
             }
-            case 10 -> due("set(" + v + ", " + value + ")", net.set(v, value), plain.set(v, value));
-            default -> workCallThatShouldBeRefused(value);
+            case 13 -> due("enabled");
+            default -> callThatIsRefusedWhileACaseIsOn();
         }
-        due("variable(" + v + ")", net.variable(v), plain.variable(v));
+    }
+
+    private void finish(int item, int value) {
+        due("finish", item, value);
+        due("variable", between(-1, 4));
     }
 
     private void fireOneOf(int enabled) {
-        due("enabled", net.enabled(), enabled);
         int t = taskNumber();
         for (int tries = 0; tries < 20 && (enabled >> t & 1) == 0; tries++) {
             t = taskNumber();
         }
-        int first = plain.fire(t);
-        due("fire(" + t + ")", net.fire(t), first);
+        due("fire", t);
         while (plain.item(made + 1, 0) >= 0) {
             made++;
         }
     }
 
-    private void workCallThatShouldBeRefused(int value) {
-        int t = taskNumber();
-        due("task", net.task(t, 0, 0, 1, 2), plain.task(t, 0, 0, 1, 2));
-        due("region", net.region(t, 1), plain.region(t, 1));
-        due("guard", net.guard(t, 1, 0, value, value), plain.guard(t, 1, 0, value, value));
-        due("items", net.items(t, 4, 1, 0, 1), plain.items(t, 4, 1, 0, 1));
-        due("launch", net.launch(), plain.launch());
-    }
-
-    private void due(String call, int got, int want) {
-        checks.due(call, want, got);
-    }
-
-    private void due(String call, boolean got, boolean want) {
-        checks.due(call, want, got);
+    private void callThatIsRefusedWhileACaseIsOn() {
+        if (random.nextInt(4) == 0) {
+            due("launch");
+        } else {
+            designCall();
+        }
     }
 }
