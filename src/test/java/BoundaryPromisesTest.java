@@ -908,6 +908,20 @@ public final class BoundaryPromisesTest extends Sentences {
         is(10, "tick", 1);
         is(9, "item", 1, 2);
 
+        sentence("promise 13: the clock after as many ticks as an object can be given, nearly");
+        yes("task", 0, ALL, ALL, mask(0), mask(1));
+        yes("items", 0, 1, 1, 0, 100);
+        yes("launch");
+        for (int hundred = 1; hundred <= 500; hundred++) {
+            is(100 * hundred, "tick", 100);
+        }
+        is(1, "fire", 0);
+        is(50000, "item", 1, 2);
+        is(50099, "tick", 99);
+        states(1, 1);
+        is(50100, "tick", 1);
+        states(1, 4);
+
         sentence("promise 13: an n that does not count brings no deadline nearer");
         yes("task", 0, ALL, ALL, mask(0), mask(1));
         yes("items", 0, 1, 1, 0, 1);

@@ -9,6 +9,12 @@ public final class RandomRunsTest {
     /** Left at the end of a run, to look at each item. */
     private static final int LAST_CALLS = 130;
 
+    private static final String[] NAMES = {
+        "task", "region", "guard", "items", "fire", "start", "finish", "fail", "tick", "set", "variable", "item",
+        "covers"
+    };
+    private static final int[] ARGUMENTS = {5, 2, 5, 5, 1, 1, 2, 1, 1, 2, 1, 2, 3};
+
     private final Checks checks;
     private final Random random;
     private final Trace net = new Trace();
@@ -31,6 +37,9 @@ public final class RandomRunsTest {
     }
 
     private void run() {
+        if (random.nextInt(6) == 0) {
+            makeItems(between(10, 15));
+        }
         while (hasCallsLeft()) {
             designCalls(between(6, 20));
             for (int round = between(1, 3); round > 0 && hasCallsLeft(); round--) {
@@ -40,6 +49,19 @@ public final class RandomRunsTest {
             }
         }
         lookAtItems();
+    }
+
+    /** So that some runs come to the greatest number of items. */
+    private void makeItems(int rounds) {
+        due("task", 0, 0, 0, 1, 1);
+        due("items", 0, 4, 1, 0, 0);
+        due("launch");
+        for (int i = 0; i < rounds; i++) {
+            due("fire", 0);
+            due("start", made);
+            due("finish", made, value());
+        }
+        due("cancel");
     }
 
     private boolean hasCallsLeft() {
@@ -52,6 +74,9 @@ public final class RandomRunsTest {
         checks.due(call.toString(), want, net.call(call));
         if (!call.isRefusedBy(want)) {
             checks.due(call + " without those refused", want, call.on(spared));
+        }
+        while (plain.item(made + 1, 0) >= 0) {
+            made++;
         }
     }
 
@@ -97,9 +122,32 @@ public final class RandomRunsTest {
         return rarely() ? between(-2, 6) : between(0, 3);
     }
 
+    private int wildNumber() {
+        return switch (random.nextInt(6)) {
+            case 0 -> Integer.MIN_VALUE + random.nextInt(2);
+            case 1 -> Integer.MAX_VALUE - random.nextInt(2);
+            case 2 -> 1 << random.nextInt(32);
+            case 3 -> random.nextInt();
+            default -> between(-1, 7);
+        };
+    }
+
+    /** Any call with any numbers: it must be answered, and what is refused must change nothing. */
+    private void wildCall() {
+        int which = random.nextInt(NAMES.length);
+        int[] args = new int[ARGUMENTS[which]];
+        for (int i = 0; i < args.length; i++) {
+            args[i] = wildNumber();
+        }
+        due(NAMES[which], args);
+    }
+
     private void designCalls(int calls) {
         for (int i = 0; i < calls && hasCallsLeft(); i++) {
             designCall();
+            if (rarely()) {
+                wildCall();
+            }
         }
         for (int i = 0; i < 5 && hasCallsLeft(); i++) {
             due("verdict");
@@ -158,7 +206,7 @@ public final class RandomRunsTest {
     }
 
     private void workCall() {
-        switch (random.nextInt(15)) {
+        switch (random.nextInt(16)) {
             case 0, 1, 2, 3 -> fireOneOf(plain.enabled());
             case 4, 5, 6 -> due("start", itemNumber());
             case 7, 8, 9 -> finish(itemNumber(), value());
@@ -170,6 +218,7 @@ public final class RandomRunsTest {
                 due("variable", variable);
             }
             case 13 -> due("enabled");
+            case 14 -> wildCall();
             default -> callThatIsRefusedWhileACaseIsOn();
         }
     }
@@ -185,9 +234,6 @@ public final class RandomRunsTest {
             t = taskNumber();
         }
         due("fire", t);
-        while (plain.item(made + 1, 0) >= 0) {
-            made++;
-        }
     }
 
     private void callThatIsRefusedWhileACaseIsOn() {
